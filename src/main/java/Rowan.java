@@ -21,7 +21,7 @@ public final class Rowan {
 
     /** A type of 100 parts is shown with less than 9 characters for each. */
     private static final int TEXT_ROOM = 1000;
-    private static final int NODE_LIMIT = 60000;
+    private static final int NODE_LIMIT = 32000;
     private static final int WORK_LIMIT = 4 * NODE_LIMIT;
 
     private static final int NONE = -1;
@@ -70,6 +70,11 @@ public final class Rowan {
     private static final int RECORD_VALUE = 2;
     private static final int VARIANT_VALUE = 3;
     private static final int OBJECT_VALUE = 4;
+
+    private static final String WRITABLE = "0123456789abcdefghijklmnopqrstuvwxyz :,|'-><(){}[]";
+    /** By the kinds of types that have rows, from RECORD_TYPE on. */
+    private static final String OPENINGS = "{[<";
+    private static final String CLOSINGS = "}]>";
 
     private static final char UNTYPED = 0;
     private static final char FINE = '-';
@@ -353,7 +358,7 @@ public final class Rowan {
     }
 
     public int write(char character) throws IllegalArgumentException, IllegalStateException {
-        if (!isWritable(character)) {
+        if (WRITABLE.indexOf(character) < 0) {
             throw new IllegalArgumentException("no such character in types");
         }
         if (writtenCount >= WRITTEN_LIMIT) {
@@ -489,14 +494,14 @@ public final class Rowan {
     }
 
     public boolean isSound() {
-        boolean isSound = true;
-        for (int term = 0; term < program.count && isSound; term++) {
+        boolean holds = true;
+        for (int term = 0; term < program.count && holds; term++) {
             if (program.isWhole(term) && typing.errorOf(term) == FINE) {
                 types.forget();
-                isSound = isAccepted(readShown(term, false), term) && isAsGeneral(term, term) && endsAlike(term);
+                holds = isAccepted(readShown(term, false), term) && isAsGeneral(term, term) && endsAlike(term);
             }
         }
-        return isSound;
+        return holds;
     }
 
     // ---- What calls need ----
@@ -578,31 +583,6 @@ public final class Rowan {
     }
 
     // ---- What calls share ----
-
-    private static boolean isWritable(char character) {
-        if (character >= '0' && character <= '9' || character >= 'a' && character <= 'z') {
-            return true;
-        }
-        switch (character) {
-            case ' ':
-            case ':':
-            case ',':
-            case '|':
-            case '\'':
-            case '-':
-            case '>':
-            case '<':
-            case '(':
-            case ')':
-            case '{':
-            case '}':
-            case '[':
-            case ']':
-                return true;
-            default:
-                return false;
-        }
-    }
 
     /** The shown text tells all of a type, so reading it gives the type with new variables. */
     private int readShown(int term, boolean fixed) {
@@ -936,7 +916,7 @@ public final class Rowan {
                     isSame = kind[left] == kind[right] && isRowed(left) ? joinRows(left, right) : join(left, right);
                 }
             }
-            return isSame && !isFull && isFinite(one);
+            return isSame && workCount == 0 && !isFull && isFinite(one);
         }
 
         private boolean isRowed(int node) {
@@ -1527,13 +1507,9 @@ public final class Rowan {
                     pushFunction(node);
                     break;
                 case RECORD_TYPE:
-                    pushRow(node, '{', '}');
-                    break;
                 case VARIANT_TYPE:
-                    pushRow(node, '[', ']');
-                    break;
                 case OBJECT_TYPE:
-                    pushRow(node, '<', '>');
+                    pushRow(node, types.kind[node] - RECORD_TYPE);
                     break;
                 case VARIABLE:
                     putVariable(node);
@@ -1563,10 +1539,10 @@ public final class Rowan {
             }
         }
 
-        private void pushRow(int node, char opening, char closing) {
+        private void pushRow(int node, int rowed) {
             int labels = types.gather(types.first[node], row);
-            put(opening);
-            push(-closing);
+            put(OPENINGS.charAt(rowed));
+            push(-CLOSINGS.charAt(rowed));
             if (row[LABELS] != CLOSED_NODE) {
                 push(row[LABELS]);
                 push(-'|');
@@ -1696,29 +1672,16 @@ public final class Rowan {
 
         private void readStart() {
             char character = next();
+            int rowed = OPENINGS.indexOf(character);
             at++;
-            switch (character) {
-                case 'i':
-                    setEnded(take('n') && take('t') ? INT_NODE : NONE);
-                    break;
-                case '\'':
-                    setEnded(readVariable(VARIABLE));
-                    break;
-                case '(':
-                    pushFrame(BRACKET, NONE, BEGIN);
-                    break;
-                case '{':
-                    pushFrame(RECORD_TYPE, CLOSED_NODE, IN_ROW);
-                    break;
-                case '[':
-                    pushFrame(VARIANT_TYPE, CLOSED_NODE, IN_ROW);
-                    break;
-                case '<':
-                    pushFrame(OBJECT_TYPE, CLOSED_NODE, IN_ROW);
-                    break;
-                default:
-                    state = WRONG;
-                    break;
+            if (rowed >= 0) {
+                pushFrame(RECORD_TYPE + rowed, CLOSED_NODE, IN_ROW);
+            } else if (character == '(') {
+                pushFrame(BRACKET, NONE, BEGIN);
+            } else if (character == '\'') {
+                setEnded(readVariable(VARIABLE));
+            } else {
+                setEnded(character == 'i' && take('n') && take('t') ? INT_NODE : NONE);
             }
         }
 
@@ -1781,8 +1744,8 @@ public final class Rowan {
         }
 
         private char closing() {
-            int kind = frame[depth - 1];
-            return kind == RECORD_TYPE ? '}' : kind == VARIANT_TYPE ? ']' : '>';
+            int rowed = depth > 0 ? frame[depth - 1] - RECORD_TYPE : NONE;
+            return rowed >= 0 && rowed < CLOSINGS.length() ? CLOSINGS.charAt(rowed) : ' ';
         }
 
         private void readLabel() {

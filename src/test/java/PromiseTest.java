@@ -474,6 +474,7 @@ public final class PromiseTest {
         due("{0:'0 -> '0,1:'1 -> '1}", type(x.let(0, identity(), pairOf(0))));
         due("'0 -> {0:'0,1:'0}", type(fn(0, x.let(1, v(0), pairOf(1)))));
         due("'0 -> {0:'0,1:'0}", type(fn(0, x.let(0, v(0), pairOf(0)))));
+        due("'0 -> {0:int,1:'0}", type(fn(0, x.with(0, x.let(0, n(1), v(0)), x.with(1, v(0), x.record())))));
         due("u@0", typeAfter(() -> x.let(0, v(0), v(0))));
         due("{0:{1:'0 -> '0},1:{1:'1 -> '1}}", typeAfter(() ->
                 x.let(0, x.with(1, identity(), x.record()), pairOf(0))));
@@ -833,7 +834,16 @@ public final class PromiseTest {
         due(false, accepts("{0:int|'0-0} -> {3:int|'0-}", with));
         due(false, accepts("{0:int|'0-} -> {3:int|'1-0}", with));
         due(false, accepts("{0:int|'1-0} -> {0:int,3:int|'1-} -> int", with));
-        due(true, accepts("'0 -> '0", fn(0, x.narrow(v(0), 0))) == accepts("<> -> <>", x.terms() - 1));
+        due(true, accepts("<> -> <>", fn(0, x.narrow(v(0), 0))));
+        due(false, accepts("{} -> <>", x.terms() - 1));
+        // A row variable lacks the labels ahead of it, and what it is told to lack, anywhere.
+        int any = fn(0, x.with(0, n(1), x.record()));
+        due(true, accepts("{1:int|'0-} -> {|'0-}", any));
+        due(false, accepts("{0:int|'0-} -> {|'0-}", any));
+        due(false, accepts("{|'0-0} -> {|'0-}", any));
+        int two = fn(1, fn(0, x.with(0, n(1), x.record())));
+        due(true, accepts("{|'1-0} -> {|'0-} -> {|'0-}", two));
+        due(false, accepts("{|'0-0} -> {|'0-} -> {|'0-}", two));
         text("int ->");
         thrown(UNSUPPORTED, () -> x.accepts(identity));
         int name = v(0);
@@ -904,6 +914,9 @@ public final class PromiseTest {
         thrown(ELEMENT, () -> x.resultField(0));
         thrown(ARGUMENT, () -> x.resultField(-1));
         thrown(ELEMENT, () -> x.result());
+        x.run(x.without(x.with(4, n(5), x.record()), 4));
+        due('r', x.outcome());
+        thrown(ELEMENT, () -> x.resultField(4));
         x.run(variant);
         promise = 40;
         due('v', x.outcome());

@@ -516,8 +516,111 @@ public final class RandomRuns {
         call(name, arguments);
     }
 
+    // ---- Long runs and large types ----
+
+    private int numeral(int depth) {
+        return depth == 0 || chance(4) == 0 ? make("name", 0)
+                : make("apply", numeral(depth - 1), numeral(depth - 1));
+    }
+
+    /** Numbers as functions that do another one as often. */
+    private int repeated() {
+        int twice = make("apply", make("name", 1), make("apply", make("name", 1), make("name", 2)));
+        int two = make("function", 1, make("function", 2, twice));
+        int more = make("function", 4, make("sum", make("name", 4), make("number", 1)));
+        int all = make("apply", make("apply", numeral(3), more), make("number", 0));
+        return make("let", 0, two, all);
+    }
+
+    private int lower(int by) {
+        int sum = make("sum", make("name", 1), make("number", -by));
+        return make("apply", make("send", make("name", 0), 0), sum);
+    }
+
+    /** A method that runs itself once or twice, with a lower number. */
+    private int recursive() {
+        int clazz = make("addClass", 0, -1);
+        int again = chance(2) == 0 ? make("sum", lower(1), lower(2)) : make("sum", make("number", 1), lower(1));
+        int inner = make("choice", make("sum", make("name", 1), make("number", -1)), again, make("number", 1));
+        call("addMethod", clazz, 0, make("function", 1, make("choice", make("name", 1), inner, make("number", 1))));
+        int number = make("number", chance(4) == 0 ? chance(60) : chance(14));
+        return make("apply", make("send", make("make", clazz), 0), number);
+    }
+
+    private int pair(int first, int second) {
+        return make("with", chance(10), first, make("with", chance(10), second, make("record")));
+    }
+
+    /** A type that gets large; name 0 doubles, name 1 narrows, name 2 is for all. */
+    private int large(int depth) {
+        if (depth == 0) {
+            return chance(3) == 0 ? make("number", 1) : make("name", chance(3));
+        }
+        switch (chance(8)) {
+            case 0:
+            case 1:
+            case 2:
+                return make("apply", make("name", 0), large(depth - 1));
+            case 3:
+                return make("function", 3 + chance(2), large(depth - 1));
+            case 4:
+                return make("variant", chance(10), large(depth - 1));
+            case 5:
+                return pair(large(depth - 1), large(depth - 1));
+            case 6:
+                return make("choice", make("number", 0), make("name", chance(3)), large(depth - 1));
+            default:
+                return make("let", 2, large(depth - 1), large(depth - 1));
+        }
+    }
+
+    private int largeWithNames() {
+        int body = large(3 + chance(5));
+        int narrow = make("let", 1, make("function", 5, make("narrow", make("name", 5), chance(1024))), body);
+        int all = make("let", 2, make("function", 5, make("name", 5)), narrow);
+        return make("let", 0, make("function", 5, pair(make("name", 5), make("name", 5))), all);
+    }
+
+    private int largeObject() {
+        int parent = -1;
+        for (int i = 1 + chance(3); i > 0; i--) {
+            int clazz = make("addClass", 5, parent);
+            for (int label = chance(2); label < 3; label++) {
+                call("addMethod", clazz, chance(10), chance(3) == 0 ? largeWithNames()
+                        : make("function", 1, pair(make("name", 1), make("send", make("name", 5), chance(10)))));
+            }
+            parent = clazz;
+        }
+        return make("make", parent);
+    }
+
+    private void heavy() {
+        int term;
+        switch (chance(4)) {
+            case 0:
+                term = repeated();
+                break;
+            case 1:
+                term = recursive();
+                break;
+            case 2:
+                term = largeWithNames();
+                break;
+            default:
+                term = largeObject();
+                break;
+        }
+        if (chance(3) == 0) {
+            make("function", chance(8), term);
+        }
+    }
+
     private int play() {
-        addClasses();
+        if (chance(5) == 0) {
+            heavy();
+        } else {
+            addClasses();
+        }
         boolean isWild = chance(4) == 0;
         int depth = 2 + chance(4);
         List<String> texts = new ArrayList<>();
