@@ -1,128 +1,5 @@
-import java.util.NoSuchElementException;
-
 /** Tests of the promises by their numbers; each would fail if its promise were broken. */
-public final class PromiseTest {
-
-    private static final Class<?> ARGUMENT = IllegalArgumentException.class;
-    private static final Class<?> INDEX = IndexOutOfBoundsException.class;
-    private static final Class<?> UNSUPPORTED = UnsupportedOperationException.class;
-    private static final Class<?> STATE = IllegalStateException.class;
-    private static final Class<?> ELEMENT = NoSuchElementException.class;
-    private static final Class<?> ARITHMETIC = ArithmeticException.class;
-
-    private static int wrong = 0;
-    private static int right = 0;
-    private static int promise = 0;
-    private static Rowan x = new Rowan();
-
-    private interface Call {
-        Object answer();
-    }
-
-    private static void promise(int number) {
-        promise = number;
-        x = new Rowan();
-    }
-
-    private static void due(Object due, Object got) {
-        if (due.equals(got)) {
-            right++;
-        } else {
-            wrong++;
-            StackTraceElement[] stack = new Throwable().getStackTrace();
-            System.out.println("promise " + promise + ", line " + stack[1].getLineNumber()
-                    + (stack.length > 2 ? " from " + stack[2].getLineNumber() : "") + ": " + got + ", due is " + due);
-        }
-    }
-
-    private static void thrown(Class<?> due, Call call) {
-        Object got;
-        int terms = x.terms();
-        try {
-            got = call.answer();
-        } catch (RuntimeException error) {
-            got = error.getClass();
-        }
-        due(due, got);
-        due(terms, x.terms());
-    }
-
-    // ---- Short ways to make and to ask ----
-
-    private static int n(int value) {
-        return x.number(value);
-    }
-
-    private static int v(int name) {
-        return x.name(name);
-    }
-
-    private static int fn(int name, int body) {
-        return x.function(name, body);
-    }
-
-    private static int identity() {
-        return fn(7, v(7));
-    }
-
-    private static int pairOf(int name) {
-        return x.with(0, v(name), x.with(1, v(name), x.record()));
-    }
-
-    private static String type(int term) {
-        if (x.error(term) != '-') {
-            return x.error(term) + "@" + x.errorAt(term);
-        }
-        StringBuilder text = new StringBuilder();
-        for (int i = 0; i < x.typeLength(term); i++) {
-            text.append(x.typeAt(term, i));
-        }
-        return text.toString();
-    }
-
-    private static String run(int term) {
-        int steps = x.run(term);
-        String end = end();
-        due(steps, x.runBySearch(term));
-        due(end, end());
-        return end + " in " + steps;
-    }
-
-    private static String end() {
-        switch (x.outcome()) {
-            case 'n':
-                return "n " + x.result();
-            case 'v':
-                return "v " + x.resultLabel();
-            case 'o':
-                return "o " + x.resultClass();
-            default:
-                return String.valueOf(x.outcome());
-        }
-    }
-
-    private static void text(String text) {
-        x.erase();
-        for (int i = 0; i < text.length(); i++) {
-            x.write(text.charAt(i));
-        }
-    }
-
-    private static boolean isType(String text) {
-        text(text);
-        return x.isType();
-    }
-
-    private static boolean accepts(String text, int term) {
-        text(text);
-        return x.accepts(term);
-    }
-
-    private static void fillTerms() {
-        while (x.terms() < 80) {
-            x.number(0);
-        }
-    }
+public final class PromiseTest extends Bench {
 
     // ---- Terms: promises 1 to 17 ----
 
@@ -464,11 +341,6 @@ public final class PromiseTest {
         due("t@3", typeAfter(() -> x.choice(x.record(), n(1), n(0))));
     }
 
-    private static String typeAfter(Call call) {
-        x = new Rowan();
-        return type((Integer) call.answer());
-    }
-
     private static void typesOfLets() {
         promise(6);
         due("{0:'0 -> '0,1:'1 -> '1}", type(x.let(0, identity(), pairOf(0))));
@@ -614,14 +486,6 @@ public final class PromiseTest {
             inner = x.apply(v(6), inner);
         }
         return inner;
-    }
-
-    private static int functions(int count, int inner) {
-        int term = inner;
-        for (int i = 0; i < count; i++) {
-            term = fn(1, term);
-        }
-        return term;
     }
 
     private static int withDouble(int body) {
@@ -940,34 +804,6 @@ public final class PromiseTest {
         due('f', x.outcome());
     }
 
-    /** Class k has a method with 1, 7, 19, 43 .. steps, each with two runs of the one before. */
-    private static void addBlocks(int count) {
-        for (int k = 0; k < count; k++) {
-            x.addClass(0, -1);
-            x.addMethod(k, 0, k == 0 ? n(1)
-                    : x.sum(x.send(x.make(k - 1), 0), x.send(x.make(k - 1), 0)));
-        }
-    }
-
-    /** A term that runs in just so many steps, built of the blocks. */
-    private static int termOf(int steps, int blocks) {
-        if (steps == 1) {
-            return n(0);
-        }
-        if (steps == 4) {
-            return x.get(x.with(0, n(0), x.record()), 0);
-        }
-        int cost = 1;
-        int best = -1;
-        for (int k = 0, next = 3; k < blocks && next + 2 <= steps && steps - next - 1 != 2; k++) {
-            best = k;
-            cost = next;
-            next = 2 * next + 3;
-        }
-        int first = best < 0 ? n(0) : x.send(x.make(best), 0);
-        return x.sum(first, termOf(steps - cost - 1, blocks));
-    }
-
     private static void limits() {
         promise(36);
         addBlocks(8);
@@ -1005,33 +841,6 @@ public final class PromiseTest {
         due('n', outcomeOfDepth(48, 1));
         due('d', outcomeOfDepth(48, 2));
         due('d', outcomeOfDepth(49, 0));
-    }
-
-    /** Runs 3 terms within one another, two more for each turn, and one more for each sum around. */
-    private static char outcomeOfDepth(int turns, int sums) {
-        x = new Rowan();
-        x.addClass(0, -1);
-        int rest = x.choice(v(1), x.apply(x.send(v(0), 0), x.sum(v(1), n(-1))), n(1));
-        x.addMethod(0, 0, fn(1, rest));
-        int term = x.apply(x.send(x.make(0), 0), n(turns));
-        for (int i = 0; i < sums; i++) {
-            term = x.sum(n(0), term);
-        }
-        x.run(term);
-        char outcome = x.outcome();
-        x.runBySearch(term);
-        due(outcome, x.outcome());
-        return outcome;
-    }
-
-    private static void bothLimits(int ahead, char due, int steps) {
-        x = new Rowan();
-        addBlocks(7);
-        x.addClass(0, -1);
-        x.addMethod(7, 0, x.send(v(0), 0));
-        int term = x.sum(termOf(ahead, 7), x.send(x.make(7), 0));
-        due(steps, x.run(term));
-        due(due, x.outcome());
     }
 
     private static void caches() {
@@ -1174,7 +983,6 @@ public final class PromiseTest {
         caches();
         lateBinding();
         wholes();
-        System.out.println("promises: " + right + " right, " + wrong + " wrong");
-        System.exit(wrong == 0 ? 0 : 1);
+        finish("promises");
     }
 }
