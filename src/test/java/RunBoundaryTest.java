@@ -1,4 +1,4 @@
-/** Each sentence of the document that names a boundary of runs, their results or the caches has a test of its own here. */
+/** The boundaries of runs, their results and the caches: a test for each sentence of the document that names one. */
 public final class RunBoundaryTest extends Bench {
 
     // ---- Sums and steps ----
@@ -393,6 +393,7 @@ public final class RunBoundaryTest extends Bench {
         }
         x.record();
         due(239.0 / 80.0, x.meanLength());
+        due(true, x.isSound());
     }
 
     private static void soundness() {
@@ -412,6 +413,12 @@ public final class RunBoundaryTest extends Bench {
         sentence(48, "types with texts of more than 200 characters");
         functions(48, opened());
         due(true, x.typeLength(x.terms() - 1) > 200);
+        due(true, x.isSound());
+        sentence(48, "each of 80 terms");
+        for (int i = 0; i < 20; i++) {
+            x.variant(i % 10, x.sum(n(i), n(1)));
+        }
+        due(80, x.terms());
         due(true, x.isSound());
         sentence(48, "checks and changes nothing");
         classOf(0, -1, n(1));

@@ -1,4 +1,4 @@
-/** Each sentence of the document that names a boundary of terms, cases or classes has a test of its own here, told by its promise. */
+/** The boundaries of terms, cases and classes: a test for each sentence of the document that names one. */
 public final class TermBoundaryTest extends Bench {
 
     // ---- The public face, and "Terms" ----

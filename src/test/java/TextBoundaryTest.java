@@ -1,4 +1,4 @@
-/** Each sentence of the document that names a boundary of reading, accepting or being general has a test of its own here. */
+/** The boundaries of texts that are read: a test for each sentence of the document that names one. */
 public final class TextBoundaryTest extends Bench {
 
     private static void types(boolean due, String... texts) {
@@ -74,6 +74,14 @@ public final class TextBoundaryTest extends Bench {
             types(true, "'" + i, "{|'" + i + "-}");
         }
         types(false, "'100", "'101", "'999", "'-1", "'", "' 1", "'a", "''1", "{|'100-}", "{|'-}", "{|-}");
+        sentence(32, "each number is a variable of its own");
+        int[] numbers = {0, 1, 2, 9, 10, 11, 12, 19, 20, 21, 90, 91, 98, 99};
+        for (int first : numbers) {
+            for (int second : numbers) {
+                x = new Rowan();
+                accepted(first != second, identity(), "'" + first + " -> {1:'" + second + "}");
+            }
+        }
         sentence(32, "without zeros ahead");
         for (int i = 0; i <= 9; i++) {
             types(false, "'0" + i, "{|'0" + i + "-}");
@@ -108,6 +116,26 @@ public final class TextBoundaryTest extends Bench {
         }
     }
 
+    private static void readAgain() {
+        sentence(32, "a text that is no type leaves the next one as it is");
+        String[] wrongs = {"{0:int", "(int -> ", "int -> {1:", "{0:'1|'1-}", "((int", "{0:int,0:"};
+        for (String wrong : wrongs) {
+            due(false, isType(wrong));
+            due(true, isType("int -> {0:'1|'2-}"));
+        }
+        sentence(33, "a type is read as often as is asked");
+        int large = functions(24, x.with(2, opened(), recordOf("01")));
+        accepted(true, large, "'0 -> '1 -> {0:int|'9-} -> '2 -> '3 -> '4 -> '5 -> '6");
+        for (int i = 0; i < 350; i++) {
+            due(true, x.accepts(large));
+        }
+        sentence(29, "being general is asked as often as is wanted");
+        int general = functions(48, opened());
+        for (int i = 0; i < 400; i++) {
+            due(true, x.isGeneral(general, general));
+        }
+    }
+
     private static void kinds() {
         sentence(32, "a variable that stands for a type cannot be a row variable");
         types(false, "{0:'0|'0-}", "'0 -> {|'0-}", "{|'0-} -> '0", "{|'0-} -> {0:'0}", "{0:{|'7-}} -> '7", "'99 -> [|'99-]");
@@ -125,7 +153,8 @@ public final class TextBoundaryTest extends Bench {
                 "{0:(int -> int)}");
         sentence(32, "built as told: { }, [ ] or < >");
         types(true, "{}", "[]", "<>", "{0:[]}", "[0:<>]", "<0:{}>", "{0:int -> int}", "{0:(int -> int) -> int}", "{} -> []");
-        types(false, "{", "}", "{]", "[}", "<}", "{>", "{}}", "{{}", "{}{}", "{ }", "{0}", "{0:}", "{0:int,}", "{,}", "{,0:int}",
+        types(false, "{", "}", "{]", "[}", "<}", "{>", "{}}", "{{}", "{}{}", "{ }", "{0}", "{0:}", "{0:int,}", "{,}",
+                "{,0:int}",
                 "{0 :int}", "{0: int}", "{0:int, 1:int}", "{0:int 1:int}", "{0int}", "{int}", "{0:int1:int}");
         sentence(32, "built as told: \"|\" and its row variable");
         types(true, "{|'0-}", "{0:int|'0-}", "{0:int,1:int|'0-}");
@@ -292,6 +321,7 @@ public final class TextBoundaryTest extends Bench {
         numbers();
         labels();
         kinds();
+        readAgain();
         lacking();
         accepting();
         general();

@@ -1,4 +1,4 @@
-/** Each sentence of the document that names a boundary of types, or of their texts, has a test of its own here, told by its promise. */
+/** The boundaries of types and of their texts: a test for each sentence of the document that names one. */
 public final class TypeBoundaryTest extends Bench {
 
     // ---- "Types" ----
@@ -63,6 +63,51 @@ public final class TypeBoundaryTest extends Bench {
         sentence(4, "an inner name hides an outer one, which is back behind it");
         due("'0 -> {0:'1 -> '1,1:'0}", type(fn(0, x.with(0, fn(0, v(0)), x.with(1, v(0), x.record())))));
         due("'0 -> {0:int,1:'0}", type(fn(0, x.with(0, x.let(0, n(1), v(0)), x.with(1, v(0), x.record())))));
+        // What was for all is so again, and what hides it is not.
+        due("{0:'0 -> '0,1:'1 -> '1,2:'2 -> '2}", type(x.let(0, identity(), x.with(2, fn(0, v(0)), pairOf(0)))));
+        due("{0:'0 -> '0,1:'1 -> '1,2:int}", type(x.let(0, identity(), x.with(2, x.let(0, n(1), v(0)), pairOf(0)))));
+        due("'0 -> {0:'0,1:'0}", type(x.let(0, identity(), fn(0, pairOf(0)))));
+        due("'0 -> {0:'0,1:'0,2:'1 -> '1}",
+                type(fn(0, x.with(2, x.let(0, identity(), v(0)), pairOf(0)))));
+    }
+
+    private static void matches() {
+        sentence(16, "of the cases for one label, the types of the names are made the same");
+        due("[2:int] -> int", type(fn(0, x.match(v(0), x.caseFor(2, 1, n(1),
+                x.caseFor(2, 1, x.sum(v(1), n(0)), x.noCases()))))));
+        int two = x.match(v(0), x.caseFor(2, 1, x.get(v(1), 0), x.caseFor(2, 1, x.sum(v(1), n(0)), x.noCases())));
+        wrongAt('t', two, fn(0, two));
+        due("[2:int,3:'0] -> int", type(fn(0, x.match(v(0), x.caseFor(2, 1, x.sum(v(1), n(0)),
+                x.caseFor(3, 1, n(0), x.noCases()))))));
+        sentence(14, "all bodies are made the same");
+        int first = x.match(v(0), x.caseFor(2, 1, n(1), x.caseFor(3, 1, x.record(), x.otherCases(1, n(1)))));
+        wrongAt('t', first, fn(0, first));
+        int last = x.match(v(0), x.caseFor(2, 1, n(1), x.caseFor(3, 1, n(1), x.otherCases(1, x.record()))));
+        wrongAt('t', last, fn(0, last));
+        int ends = x.match(v(0), x.caseFor(2, 1, n(1), x.caseFor(3, 1, n(1), x.caseFor(4, 1, x.record(), x.noCases()))));
+        wrongAt('t', ends, fn(0, ends));
+        due("[2:'0,3:'0|'1-23] -> '0 -> '0", type(fn(0, fn(5, x.match(v(0),
+                x.caseFor(2, 1, v(1), x.caseFor(3, 1, v(1), x.otherCases(1, v(5)))))))));
+        sentence(14, "a closed row, or that row variable if there are all other cases");
+        due("[] -> '0", type(fn(0, x.match(v(0), x.noCases()))));
+        due("[|'0-] -> [|'0-]", type(fn(0, x.match(v(0), x.otherCases(1, v(1))))));
+        due("[1:'0] -> int", type(fn(0, x.match(v(0), x.caseFor(1, 1, n(1), x.noCases())))));
+        due("[1:'0|'1-1] -> int", type(fn(0, x.match(v(0), x.caseFor(1, 1, n(1), x.otherCases(1, n(1)))))));
+        due("[1:'0,2:int|'1-12] -> [2:int|'1-12]", type(fn(0, x.match(v(0),
+                x.caseFor(1, 1, x.variant(2, n(1)), x.otherCases(1, v(1)))))));
+    }
+
+    private static void narrowed() {
+        sentence(22, "with these labels, of new types, and a new row variable");
+        due("<0:'0,9:'1|'2-09> -> <0:'0,9:'1>", type(fn(0, x.narrow(v(0), 513))));
+        due("<0:'0|'1-0> -> <2:'2|'3-2> -> {0:<0:'0>,1:<2:'2>}", type(fn(0, fn(1,
+                x.with(0, x.narrow(v(0), 1), x.with(1, x.narrow(v(1), 4), x.record()))))));
+        sentence(24, "a term without a type leaves the types of others as they are");
+        due('u', x.error(x.let(0, identity(), fn(1, x.sum(n(1), v(7))))));
+        due("'0 -> {0:'0,1:'0}", type(fn(0, pairOf(0))));
+        wrongAt('u', x.terms(), v(0));
+        due('t', x.error(fn(0, x.match(v(0), x.caseFor(0, 1, x.sum(v(1), x.record()), x.noCases())))));
+        due("{0:'0 -> '0,1:'1 -> '1}", type(x.let(1, identity(), pairOf(1))));
     }
 
 
@@ -401,6 +446,8 @@ public final class TypeBoundaryTest extends Bench {
         rows();
         partsOfThemselves();
         namesInTypes();
+        matches();
+        narrowed();
         values();
         leftSides();
         namesOfLets();
