@@ -1385,9 +1385,9 @@ public final class Rowan {
         private char closeNarrow(int term) {
             int labels = program.detail[term];
             putNewVariables();
-            int open = types.newLabels(labels, typesOfLabels, types.newRowVariable(labels));
+            int openRow = types.newLabels(labels, typesOfLabels, types.newRowVariable(labels));
             typeOf[term] = types.newRowed(OBJECT_TYPE, types.newLabels(labels, typesOfLabels, CLOSED_NODE));
-            int needed = types.newRowed(OBJECT_TYPE, open);
+            int needed = types.newRowed(OBJECT_TYPE, openRow);
             return types.unify(typeOfPart(term, 0), needed) ? FINE : NOT_THE_SAME;
         }
 

@@ -441,6 +441,28 @@ public final class RunBoundaryTest extends Bench {
         due(true, x.isSound());
         due(4, x.write('t'));
         due(true, x.isSound());
+        sentence(48, "the caches keep their classes behind a check");
+        int inner = x.send(v(0), 1);
+        classOf(0, -1, inner, n(5));
+        x.addClass(0, 0);
+        x.addMethod(1, 1, n(6));
+        int ofParent = x.send(x.make(0), 0);
+        int ofHeir = x.send(x.make(1), 0);
+        due(true, x.isSound());
+        x.run(ofParent);
+        due(1, x.misses(inner));
+        due(true, x.isSound());
+        x.run(ofParent);
+        due("n 5", end());
+        due(1, x.hits(inner));
+        due(1, x.misses(inner));
+        x.run(ofHeir);
+        due("n 6", end());
+        due(2, x.misses(inner));
+        due(true, x.isSound());
+        x.run(ofHeir);
+        due("n 6", end());
+        due(2, x.hits(inner));
     }
 
     public static void main(String[] arguments) {

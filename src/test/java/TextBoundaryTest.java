@@ -74,6 +74,8 @@ public final class TextBoundaryTest extends Bench {
             types(true, "'" + i, "{|'" + i + "-}");
         }
         types(false, "'100", "'101", "'999", "'-1", "'", "' 1", "'a", "''1", "{|'100-}", "{|'-}", "{|-}");
+        // The sign behind '9' is ':'.
+        types(false, "':", "'1:", "'9:", "{|':-}", "{|'1:-}", "{0:'1:}");
         sentence(32, "each number is a variable of its own");
         int[] numbers = {0, 1, 2, 9, 10, 11, 12, 19, 20, 21, 90, 91, 98, 99};
         for (int first : numbers) {
@@ -105,6 +107,7 @@ public final class TextBoundaryTest extends Bench {
         for (int label = 0; label < 10; label++) {
             types(true, "{" + label + ":int}");
         }
+        types(false, "{::int}", "{9:int,::int}", "{|'0-:}", "{|'0-9:}");
         types(false, "{10:int}", "{01:int}", "{a:int}", "{-1:int}", "{:int}", "{99:int}");
         sentence(32, "\"-\" with or without labels behind each row variable");
         types(true, "{|'0-}", "[|'0-]", "<|'0->", "{|'0-0123456789}", "{1:int|'0-}", "{1:int|'0-1}", "{1:int|'0-0}");
@@ -124,9 +127,9 @@ public final class TextBoundaryTest extends Bench {
             due(true, isType("int -> {0:'1|'2-}"));
         }
         sentence(33, "a type is read as often as is asked");
-        int large = functions(24, x.with(2, opened(), recordOf("01")));
-        accepted(true, large, "'0 -> '1 -> {0:int|'9-} -> '2 -> '3 -> '4 -> '5 -> '6");
-        for (int i = 0; i < 350; i++) {
+        int large = functions(48, opened());
+        accepted(true, large, "'0 -> '1 -> '2 -> '3 -> '4 -> '5 -> '6");
+        for (int i = 0; i < 400; i++) {
             due(true, x.accepts(large));
         }
         sentence(29, "being general is asked as often as is wanted");
