@@ -1,4 +1,6 @@
+import java.util.HashSet;
 import java.util.NoSuchElementException;
+import java.util.Set;
 
 /** What the tests share: an object of Rowan, short ways to make its terms, and checks of what it answers. */
 class Bench {
@@ -16,6 +18,8 @@ class Bench {
 
     static int promise = 0;
     static Rowan x = new Rowan();
+
+    private static final Set<Integer> TESTED = new HashSet<>();
 
     private static int wrong = 0;
     private static int right = 0;
@@ -48,6 +52,7 @@ class Bench {
     }
 
     static void due(Object due, Object got) {
+        TESTED.add(promise);
         if (due.equals(got)) {
             right++;
         } else {
@@ -69,6 +74,16 @@ class Bench {
         }
         due(due, got);
         due(terms, x.terms());
+    }
+
+    /** Something has been tested of each promise. */
+    static void allPromises() {
+        for (int number = 1; number <= 48; number++) {
+            if (!TESTED.contains(number)) {
+                wrong++;
+                System.out.println("nothing is tested of promise " + number);
+            }
+        }
     }
 
     /** Tells what was right and wrong, and ends the program. */

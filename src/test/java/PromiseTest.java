@@ -983,6 +983,7 @@ public final class PromiseTest extends Bench {
         caches();
         lateBinding();
         wholes();
+        allPromises();
         finish("promises");
     }
 }

@@ -1,8 +1,13 @@
+import java.io.IOException;
+import java.nio.file.Files;
+import java.nio.file.Path;
 import java.util.ArrayList;
 import java.util.HashMap;
 import java.util.List;
 import java.util.Map;
 import java.util.NoSuchElementException;
+import java.util.Set;
+import java.util.TreeSet;
 
 /**
  * Refused calls: each throws the exception that is listed first of those that apply, and changes nothing; and
@@ -23,6 +28,8 @@ public final class RefusalTest {
 
     private static int right = 0;
     private static int wrong = 0;
+    /** Which exceptions have been due, each with its promise, as "24 IndexOutOfBoundsException". */
+    private static final Set<String> SEEN = new TreeSet<>();
     private static final Map<Probe.Setup, String> STATES = new HashMap<>();
 
     private interface Making {
@@ -136,6 +143,7 @@ public final class RefusalTest {
     }
 
     private static void refused(String what, Probe.Setup setup, Class<?> due, Asking asking) {
+        SEEN.add(what.substring("promise ".length(), what.indexOf(',')) + " " + due.getSimpleName());
         Rowan x = new Rowan();
         setup.on(x);
         Object got = answerOf(x, asking);
@@ -725,7 +733,23 @@ public final class RefusalTest {
         answered("promise 46, hitShareBits of a miss", SOME, 0, x -> x.hitShareBits());
     }
 
-    public static void main(String[] arguments) {
+    // ---- All that the document lists ----
+
+    /** Each exception that a promise lists has been due here, and no other one. */
+    private static void all() throws IOException {
+        Set<String> listed = new TreeSet<>();
+        String promise = "";
+        for (String line : Files.readAllLines(Path.of("../shared/DOC.md"))) {
+            if (line.startsWith("## Promise ")) {
+                promise = line.substring("## Promise ".length(), line.indexOf(':'));
+            } else if (line.startsWith("Throws `")) {
+                listed.add(promise + " " + line.split("`")[1]);
+            }
+        }
+        check(listed.equals(SEEN), "listed are " + listed + ", seen are " + SEEN);
+    }
+
+    public static void main(String[] arguments) throws IOException {
         for (Maker maker : MAKERS) {
             edges(maker);
             together(maker);
@@ -740,6 +764,7 @@ public final class RefusalTest {
         writing();
         results();
         shares();
+        all();
         System.out.println("refusals: " + right + " right, " + wrong + " wrong");
         System.exit(wrong == 0 ? 0 : 1);
     }

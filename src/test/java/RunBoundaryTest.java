@@ -172,6 +172,42 @@ public final class RunBoundaryTest extends Bench {
         thrown(ELEMENT, () -> x.result());
     }
 
+    /** A program with a type ends; without what it would lack, the same program has none. */
+    private static void lacking(int whole, int lacking) {
+        due(true, "nfrvo".indexOf(run(whole).charAt(0)) >= 0);
+        wrongAt('t', lacking, lacking);
+        thrown(STATE, () -> x.run(lacking));
+        thrown(STATE, () -> x.runBySearch(lacking));
+    }
+
+    private static void nothingLacks() {
+        sentence(36, "no program with a type calls a method that is not there");
+        classOf(0, -1, n(1));
+        classOf(0, 0, n(2), n(3));
+        lacking(x.send(x.make(1), 1), x.send(x.make(0), 1));
+        lacking(x.send(x.narrow(x.make(1), 2), 1), x.send(x.narrow(x.make(1), 1), 1));
+        sentence(36, "or asks for a label that is not there");
+        lacking(x.get(recordOf("12"), 2), x.get(recordOf("12"), 3));
+        lacking(x.without(recordOf("12"), 2), x.without(x.without(recordOf("12"), 2), 2));
+        sentence(36, "or matches nothing");
+        lacking(x.match(x.variant(2, n(1)), casesFor("12", x.noCases())),
+                x.match(x.variant(3, n(1)), casesFor("12", x.noCases())));
+        due("n 7 in 4", run(x.match(x.variant(3, n(1)), casesFor("12", x.otherCases(0, n(7))))));
+        sentence(36, "the number of steps");
+        due(1, x.run(n(1)));
+        due(3, x.run(x.sum(n(1), n(2))));
+        sentence(37, "the number of steps of a run by search");
+        due(1, x.runBySearch(n(1)));
+        due(3, x.runBySearch(x.sum(n(1), n(2))));
+        due('n', x.outcome());
+        sentence(39, "the number that came of the last run");
+        x.run(n(MIN));
+        due(MIN, x.result());
+        x.runBySearch(n(MAX));
+        due(MAX, x.result());
+        due(MAX, x.result());
+    }
+
     private static void results() {
         sentence(41, "the number that the record has for a label");
         int record = x.with(9, n(MIN), x.with(5, identity(), x.with(4, x.variant(0, n(1)), x.with(3, x.record(),
@@ -472,6 +508,7 @@ public final class RunBoundaryTest extends Bench {
         orders();
         limits();
         runsBehindFailures();
+        nothingLacks();
         results();
         caches();
         searches();

@@ -38,6 +38,19 @@ public final class TermBoundaryTest extends Bench {
         thrown(STATE, () -> n(80));
         due("n 79 in 1", run(79));
         thrown(INDEX, () -> x.run(80));
+        sentence(23, "the number of terms, cases included, but no classes and no methods");
+        int none = x.noCases();
+        due(1, x.terms());
+        int cases = x.caseFor(0, 0, v(0), none);
+        due(3, x.terms());
+        x.match(x.variant(0, n(1)), cases);
+        due(6, x.terms());
+        x.addClass(0, -1);
+        due(6, x.terms());
+        x.addMethod(0, 0, n(2));
+        due(7, x.terms());
+        x.run(x.send(x.make(0), 0));
+        due(9, x.terms());
         sentence(2, "the number");
         for (int value : new int[] {MIN, MIN + 1, -1, 0, 1, MAX - 1, MAX}) {
             due("n " + value + " in 1", run(n(value)));

@@ -97,6 +97,18 @@ public final class TypeBoundaryTest extends Bench {
                 x.caseFor(1, 1, x.variant(2, n(1)), x.otherCases(1, v(1)))))));
     }
 
+    private static void mostGeneral() {
+        sentence(24, "it is done in the most general way");
+        // Two rows that get the same end: each has the labels of both, and nothing else is told of the rest.
+        due("{0:'0,1:'1|'2-01} -> {0:'0,1:'1|'2-01} -> {0:'0,1:'1|'2-01}", type(fn(0, fn(1, x.let(2,
+                x.with(0, x.get(v(0), 0), x.with(1, x.get(v(1), 1), x.record())),
+                x.choice(n(0), v(0), v(1)))))));
+        due("('0 -> '1) -> ('2 -> '0) -> '2 -> '1", type(fn(0, fn(1, fn(2, x.apply(v(0), x.apply(v(1), v(2))))))));
+        due("[0:'0,1:'1|'2-01] -> [0:'0,1:'1|'2-01]", typeAfter(() -> fn(0, x.choice(n(0), v(0),
+                x.match(v(0), x.caseFor(0, 1, x.variant(0, v(1)), x.caseFor(1, 1, x.variant(1, v(1)),
+                        x.otherCases(1, v(0)))))))));
+    }
+
     private static void narrowed() {
         sentence(22, "with these labels, of new types, and a new row variable");
         due("<0:'0,9:'1|'2-09> -> <0:'0,9:'1>", type(fn(0, x.narrow(v(0), 513))));
@@ -373,6 +385,17 @@ public final class TypeBoundaryTest extends Bench {
         int late = v(0);
         int early = v(1);
         wrongAt('u', early, x.apply(early, late));
+        sentence(24, "first its parts, then by its own rule");
+        int last = v(1);
+        wrongAt('u', last, x.apply(n(0), last));
+        last = v(1);
+        wrongAt('u', last, x.sum(x.record(), last));
+        last = v(1);
+        wrongAt('u', last, x.choice(x.record(), n(0), last));
+        last = v(1);
+        wrongAt('u', last, x.choice(n(0), x.record(), x.sum(n(0), last)));
+        last = v(1);
+        wrongAt('u', last, x.match(n(0), x.caseFor(0, 1, n(0), x.caseFor(1, 0, x.record(), x.otherCases(0, last)))));
         sentence(24, "the error of a term that is typed by itself");
         int name = v(0);
         int whole = fn(0, name);
@@ -433,6 +456,11 @@ public final class TypeBoundaryTest extends Bench {
         due(8, x.typeLength(any));
         due('0', x.typeAt(any, 7));
         thrown(ELEMENT, () -> x.typeAt(any, 8));
+        sentence(26, "the number of characters of the text");
+        due(3, x.typeLength(n(1)));
+        due(2, x.typeLength(x.record()));
+        due("'0 -> '0".length(), x.typeLength(identity()));
+        due(("{" + ALL_INTS + "}").length(), x.typeLength(recordOf("0123456789")));
         sentence(28, "the number of variables, row variables included");
         due(0, x.variables(n(1)));
         due(0, x.variables(x.record()));
@@ -447,6 +475,7 @@ public final class TypeBoundaryTest extends Bench {
         partsOfThemselves();
         namesInTypes();
         matches();
+        mostGeneral();
         narrowed();
         values();
         leftSides();
